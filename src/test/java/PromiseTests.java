@@ -187,6 +187,19 @@ public final class PromiseTests {
         Check.same("load", x.load(), 2);
         Check.no("end of empty", x.end(1));
         Check.yes("end 0 of empty", x.end(0));
+        // what was cut off is not read, even if it would go on with a word or a number
+        faultOfCut(0, "first 0;", 4);
+        faultOfCut(7, "loud 123;", 7);
+        faultOfCut(7, "first 0;", 7);
+    }
+
+    private static void faultOfCut(int place, String text, int n) {
+        CarnivalRoad x = floats(1, 2);
+        Check.put(x, text);
+        Check.yes("end", x.end(n));
+        Check.same("load of '" + text + "' cut", x.load(), NONE);
+        Check.same("fault of '" + text + "' cut", x.fault(0), 1);
+        Check.same("its place in '" + text + "' cut", x.fault(1), place);
     }
 
     private static void promise6Load() {
@@ -229,6 +242,16 @@ public final class PromiseTests {
         fault(1, 0, "Far 0 1 2;");
         fault(1, 0, "farx 0 1 2;");
         fault(1, 0, "farX 0 1 2;");
+        fault(1, 0, "fara 0 1 2;");
+        fault(1, 0, "farz 0 1 2;");
+        fault(1, 0, "farA 0 1 2;");
+        fault(1, 0, "farZ 0 1 2;");
+        fault(1, 3, "far@ 0 1 2;");
+        fault(1, 3, "far[ 0 1 2;");
+        fault(1, 3, "far` 0 1 2;");
+        fault(1, 3, "far{ 0 1 2;");
+        fault(1, 5, "far 0/ 1 2;");
+        fault(1, 5, "far 0: 1 2;");
         fault(1, 3, "far\t0 1 2;");
         fault(1, 3, "far\r0 1 2;");
         fault(1, 3, "far\u00e9 0 1 2;");
@@ -390,6 +413,11 @@ public final class PromiseTests {
         Check.yes("begin", x.begin());
         Check.same("orders", x.orders(), 0);
         goesOn(x, 0, "orders");
+        // bars of earlier texts bar nothing more
+        Check.same("both ends", ordersOf(x, "loud 7;first 0;last 1;far 2 3 2;"), 0);
+        Check.same("both ends", ordersOf(x, "loud 7;first 0;last 1;far 2 3 1;"), 2);
+        Check.same("one bar", ordersOf(x, "loud 7;"), 24);
+        Check.same("no bar", ordersOf(x, ""), 24);
         CarnivalRoad y = floats(0, 0, 0, 0, 0, 0, 0, 0);
         Check.same("eight", y.orders(), 40320);
         CarnivalRoad z = new CarnivalRoad();
@@ -598,9 +626,13 @@ public final class PromiseTests {
         over(x, "road");
         Check.yes("road", x.road(50, 0));
         Check.yes("wire at 49", x.wire(49, 4));
+        Check.yes("wire at 0", x.wire(0, 4));
+        Check.yes("stand at 0", x.stand(0, 4));
         Check.yes("road shorter", x.road(10, 0));
         Check.yes("road longer", x.road(50, 0));
-        Check.same("no wire at 49", x.passes(0), NONE);
+        Check.same("no wire at 49 or 0", x.passes(0), NONE);
+        Check.yes("begin", x.begin());
+        Check.same("no stand at 0", x.ends(0), 51);
     }
 
     private static void promise18Wire() {
