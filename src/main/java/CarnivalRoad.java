@@ -102,7 +102,11 @@ public final class CarnivalRoad {
     }
 
     public int load() {
-        reader.readAll(spare);
+        spare.count = 0;
+        reader.start();
+        for (int i = 0; i <= Bars.MOST && reader.hasMore(); i++) {
+            reader.readBar(spare);
+        }
         reader.length = 0;
         if (reader.faultNumber != 0) {
             return NONE;
@@ -522,18 +526,19 @@ public final class CarnivalRoad {
             }
         }
 
-        void readAll(Bars into) {
-            into.count = 0;
+        void start() {
             faultNumber = 0;
             faultPlace = NONE;
             tokenEnd = 0;
             goOn();
-            for (int i = 0; i <= Bars.MOST && token != TEXT_END && faultNumber == 0; i++) {
-                readBar(into);
-            }
         }
 
-        private void readBar(Bars into) {
+        /** Whether something is left that was not read, and no fault ended the reading. */
+        boolean hasMore() {
+            return token != TEXT_END && faultNumber == 0;
+        }
+
+        void readBar(Bars into) {
             int word = token;
             if (word != FAR && word != AHEAD && word != FIRST && word != LAST && word != LOUD) {
                 refuse(FAULT_PLACE);
@@ -844,7 +849,7 @@ public final class CarnivalRoad {
         }
 
         int minutesAt(int cell) {
-            return has(cell) ? stands[cell] : 0;
+            return cell >= 0 && cell < cells ? stands[cell] : 0;
         }
 
         int firstTooLow(int tall) {

@@ -329,6 +329,12 @@ public final class EdgeBarsTests {
         Check.fine(Check.floats(1), 1, long400.toString());
         long400.setCharAt(399, 'x');
         Check.fault(Check.floats(1), 1, 399, long400.toString());
+        // a number and a word that end with the tape
+        long400.setCharAt(6, ' ');
+        long400.setCharAt(399, '0');
+        Check.fault(Check.floats(1), 1, 400, long400.toString());
+        long400.replace(396, 400, "kind");
+        Check.fault(Check.floats(1), 1, 400, long400.toString());
     }
 
     /** Promise 7, Terms 1: "1 what can't stand there". */

@@ -295,6 +295,16 @@ public final class EdgeCallsTests {
             Check.tape(x, row[0]);
             Check.same("load", x.load(), row[1]);
         }
+        // cut within a word or a number, what was cut off is no part of it
+        int[][] cuts = {{4, 1, 0}, {7, 1, 7}, {20, 1, 17}, {23, 1, 23}};
+        for (int[] cut : cuts) {
+            CarnivalRoad x = Check.floats(1, 2);
+            Check.put(x, "first 00;last 01;loud 18;");
+            Check.yes("end", x.end(cut[0]));
+            Check.same("load", x.load(), NONE);
+            Check.same("fault", x.fault(0), cut[1]);
+            Check.same("its place", x.fault(1), cut[2]);
+        }
         // what was cut off does not come again, and what is fed stands in its place
         CarnivalRoad x = Check.floats(1, 2);
         Check.put(x, text);
@@ -357,6 +367,14 @@ public final class EdgeCallsTests {
         Check.same("orders", x.orders(), 1);
         Check.fine(x, 0, "");
         Check.same("orders", x.orders(), 6);
+        // nor is one of the texts before the last one kept, with a bar that nobody keeps
+        CarnivalRoad y = new CarnivalRoad();
+        String[] texts = {"loud 0;first kind 0;", "loud 0;last kind 0;", "loud 0;", "loud 1;"};
+        for (int i = 0; i < texts.length; i++) {
+            Check.fine(y, i < 2 ? 2 : 1, texts[i]);
+            Check.same("orders", y.orders(), i < 2 ? 0 : 1);
+            Check.why(y, i < 2 ? 1 : NONE, i < 2 ? 0 : NONE, i < 2 ? 0 : NONE);
+        }
     }
 
     /** Promise 6: "how many". */

@@ -300,6 +300,7 @@ public final class ModelTests {
         }
         Check.same("load " + text, Check.load(x, text.toString()), barCount);
         List<int[]> kept = new ArrayList<>();
+        int laid = 0;
         int[] row = new int[count];
         for (int i = 0; i < count; i++) {
             row[i] = i;
@@ -308,7 +309,9 @@ public final class ModelTests {
             if (whyByModel(bars, row, guests) == NONE) {
                 kept.add(row.clone());
             }
-            if (any(50) == 0) {
+            // an object answers for 512 calls alone
+            if (laid < 60 && any(count < 8 ? 12 : 700) == 0) {
+                laid++;
                 Check.yes("lay", x.lay(packed(row)));
                 whyIs(x, whyByModel(bars, row, guests));
             }

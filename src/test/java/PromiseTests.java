@@ -33,43 +33,27 @@ public final class PromiseTests {
         Check.close("PromiseTests");
     }
 
-    /** Floats of these louds, one cell long. */
     private static CarnivalRoad floats(int... louds) {
-        CarnivalRoad x = new CarnivalRoad();
-        for (int i = 0; i < louds.length; i++) {
-            Check.same("guest", x.guest(0, 1, louds[i], 5, 0), i);
-        }
-        return x;
+        return Check.floats(louds);
     }
 
     private static void row(CarnivalRoad x, int... guests) {
-        for (int i = 0; i < guests.length; i++) {
-            Check.same("place " + i, x.place(i), guests[i]);
-        }
-        Check.same("place behind all", x.place(guests.length), NONE);
+        Check.row(x, guests);
     }
 
     private static void why(CarnivalRoad x, int bar, int lesser, int greater) {
-        Check.same("why bar", x.why(0), bar);
-        Check.same("why lesser", x.why(1), lesser);
-        Check.same("why greater", x.why(2), greater);
+        Check.why(x, bar, lesser, greater);
         Check.same("rank agrees with why", x.rank() == NONE ? 1 : 0, bar == NONE ? 0 : 1);
     }
 
     private static void fault(int fault, int place, String text) {
         CarnivalRoad x = floats(1, 2, 3);
-        Check.same("load '" + text + "'", x.load(), 0);
-        Check.same("load '" + text + "'", Check.load(x, text), NONE);
-        Check.same("fault of '" + text + "'", x.fault(0), fault);
-        Check.same("its place in '" + text + "'", x.fault(1), place);
+        Check.same("load of nothing", x.load(), 0);
+        Check.fault(x, fault, place, text);
     }
 
     private static void fine(int bars, String text) {
-        CarnivalRoad x = floats(1, 2, 3);
-        Check.same("load '" + text + "'", Check.load(x, text), bars);
-        Check.same("fault of '" + text + "'", x.fault(0), 0);
-        Check.same("its place in '" + text + "'", x.fault(1), NONE);
-        Check.same("bars of '" + text + "'", x.look(1), bars);
+        Check.fine(floats(1, 2, 3), bars, text);
     }
 
     /** Tells that a call ended the run, and starts one again. */
